@@ -147,7 +147,7 @@ public final class KeyblockHouse {
         money -= cost;
         picture.remember(new Deed(sheets, NONE, NONE));
         for (int i = 0; i < sheets; i++) {
-            picture.printSheet(month, dampNow);
+            picture.addSheet(month, dampNow);
         }
         return first;
     }
@@ -380,7 +380,7 @@ public final class KeyblockHouse {
             }
         }
 
-        void printSheet(int month, int damp) {
+        void addSheet(int month, int damp) {
             int sheet = course.sheets;
             if (sheet < 0 || sheet >= MOST_SHEETS) {
                 return;
@@ -473,7 +473,7 @@ public final class KeyblockHouse {
             sheets = 0;
             lastState = 0;
             for (int i = 0; i < wears.size(); i++) {
-                wears.get(i).startOver();
+                wears.get(i).makeNew();
             }
         }
 
@@ -492,7 +492,7 @@ public final class KeyblockHouse {
         void printSheet() {
             lastState = nextState();
             for (int i = 0; i < wears.size(); i++) {
-                wears.get(i).printSheet();
+                wears.get(i).printLines();
             }
             sheets++;
         }
@@ -502,14 +502,14 @@ public final class KeyblockHouse {
             if (block < 0 || block >= wears.size()) {
                 return 0;
             }
-            return wears.get(block).printsLeft(line);
+            return wears.get(block).left(line);
         }
 
         int recutLine(int block, int line) {
             if (block < 0 || block >= wears.size()) {
                 return 0;
             }
-            return wears.get(block).recutLine(line);
+            return wears.get(block).cutAgain(line);
         }
     }
 
@@ -525,7 +525,7 @@ public final class KeyblockHouse {
             this.wood = wood;
         }
 
-        void startOver() {
+        void makeNew() {
             for (int i = 0; i < MOST_LINES; i++) {
                 printed[i] = 0;
             }
@@ -534,7 +534,7 @@ public final class KeyblockHouse {
             lastMarks = 0;
         }
 
-        int printsLeft(int line) {
+        int left(int line) {
             if (line < 0 || line >= wood.lines || line >= MOST_LINES) {
                 return 0;
             }
@@ -544,7 +544,7 @@ public final class KeyblockHouse {
         int brokenNext() {
             int bits = 0;
             for (int i = 0; i < wood.lines; i++) {
-                if (printsLeft(i) <= 0) {
+                if (left(i) <= 0) {
                     bits |= 1 << i;
                 }
             }
@@ -555,7 +555,7 @@ public final class KeyblockHouse {
             return brokenNext() != lastBroken || marksNow != lastMarks;
         }
 
-        void printSheet() {
+        void printLines() {
             lastBroken = brokenNext();
             lastMarks = marksNow;
             for (int i = 0; i < wood.lines && i < MOST_LINES; i++) {
@@ -563,7 +563,7 @@ public final class KeyblockHouse {
             }
         }
 
-        int recutLine(int line) {
+        int cutAgain(int line) {
             if (line < 0 || line >= MOST_LINES) {
                 return 0;
             }

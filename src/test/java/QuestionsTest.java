@@ -120,6 +120,14 @@ public final class QuestionsTest {
         CHECKS.due("22: whole with a mark as the sheet ahead", house.about(0, 4), 2);
         house.run(0, 1);
         dueStates("recut ahead of each sheet", house, 0, 1, 2, 2);
+        KeyblockHouse mark = Made.lines(2);
+        mark.run(0, 2);
+        CHECKS.due("22: would be broken", mark.about(0, 4), 1);
+        mark.recut(0, 0, 0);
+        mark.run(0, 2);
+        mark.recut(0, 0, 0);
+        mark.run(0, 2);
+        dueStates("other by a mark alone, then alike", mark, 0, 0, 1, 1, 1, 1);
     }
 
     private static void dueOrder(String what, KeyblockHouse house, int block, int... want) {
