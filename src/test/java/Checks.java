@@ -1,3 +1,4 @@
+import java.util.List;
 import java.util.function.Supplier;
 import java.util.function.ToIntFunction;
 
@@ -5,22 +6,59 @@ import java.util.function.ToIntFunction;
 final class Checks {
     private int right = 0;
     private int wrong = 0;
+    private String sentence = "";
+    private int answersOfSentence = 1;
+    private Supplier<KeyblockHouse> lastMade = null;
+    private List<String> toldOfLastMade = null;
+
+    /** What follows looks at this sentence of the document; a sentence without an answer is a fault. */
+    void sentence(String words) {
+        endSentence();
+        sentence = words + " | ";
+        answersOfSentence = 0;
+    }
+
+    private void endSentence() {
+        if (answersOfSentence == 0) {
+            wrong++;
+            System.out.println(sentence + "nothing looked at it");
+        }
+    }
 
     void due(String what, Object got, Object want) {
+        answersOfSentence++;
         if (want.equals(got)) {
             right++;
         } else {
             wrong++;
-            System.out.println(what + ": answered " + got + ", due is " + want);
+            System.out.println(sentence + what + ": answered " + got + ", due is " + want);
         }
     }
 
     /** The call must throw just this exception, by a throw of the class itself, and change nothing. */
     void refused(String what, Class<? extends RuntimeException> want, Supplier<KeyblockHouse> made,
             ToIntFunction<KeyblockHouse> call) {
-        KeyblockHouse house = made.get();
-        due(what, answer(house, call), want.getSimpleName());
-        due(what + ", what is told behind it", Told.all(house), Told.all(made.get()));
+        due(what, answer(made.get(), call), want.getSimpleName());
+        changesNothing(what, made, call);
+    }
+
+    /** All that is told behind the call must be as without it. */
+    void changesNothing(String what, Supplier<KeyblockHouse> made, ToIntFunction<KeyblockHouse> call) {
+        if (made != lastMade) {
+            lastMade = made;
+            toldOfLastMade = Told.all(made);
+        }
+        List<String> told = Told.all(() -> {
+            KeyblockHouse house = made.get();
+            answer(house, call);
+            return house;
+        });
+        due(what + ", ways to go on behind it", told.size(), toldOfLastMade.size());
+        for (int i = 0; i < told.size() && i < toldOfLastMade.size(); i++) {
+            if (!told.get(i).equals(toldOfLastMade.get(i))) {
+                due(what + ", what is told behind it", told.get(i), toldOfLastMade.get(i));
+            }
+        }
     }
 
     void outside(String what, Supplier<KeyblockHouse> made, ToIntFunction<KeyblockHouse> call) {
@@ -47,6 +85,7 @@ final class Checks {
     }
 
     void finish(String name) {
+        endSentence();
         System.out.println(name + ": " + right + " answers as due, " + wrong + " not");
         if (wrong != 0 || right == 0) {
             System.exit(1);

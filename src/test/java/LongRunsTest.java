@@ -1,5 +1,3 @@
-import java.util.function.ToIntFunction;
-
 /**
  * Runs of 512 calls on fresh houses, each answer beside that of the model. The calls are drawn by a
  * counter's digits, the same ones each time; each exception must be thrown by the class itself.
@@ -130,44 +128,7 @@ public final class LongRunsTest {
             return;
         }
         calls++;
-        StringBuilder told = new StringBuilder(name).append(", call ").append(calls).append(": ").append(call);
-        for (int argument : a) {
-            told.append(' ').append(argument);
-        }
-        checks.due(told.toString(), Checks.answer(house, of(call, a)), model.call(call, a));
-    }
-
-    private static ToIntFunction<KeyblockHouse> of(String call, int[] a) {
-        switch (call) {
-            case "letter": return h -> h.letter((char) a[0]);
-            case "work": return KeyblockHouse::work;
-            case "block": return h -> h.block(a[0]);
-            case "line": return h -> h.line(a[0], a[1], a[2]);
-            case "recut": return h -> h.recut(a[0], a[1], a[2]);
-            case "edict": return h -> h.edict(a[0]);
-            case "seal": return h -> h.seal(a[0]);
-            case "damp": return h -> h.damp(a[0]);
-            case "run": return h -> h.run(a[0], a[1]);
-            case "pass": return h -> h.pass(a[0]);
-            case "bid": return h -> h.bid(a[0], a[1], a[2]);
-            case "sell": return h -> h.sell(a[0], a[1]);
-            default: return question(call, a);
-        }
-    }
-
-    private static ToIntFunction<KeyblockHouse> question(String call, int[] a) {
-        switch (call) {
-            case "broken": return h -> h.broken(a[0], a[1], a[2]);
-            case "marks": return h -> h.marks(a[0], a[1], a[2]);
-            case "state": return h -> h.state(a[0], a[1]);
-            case "stateAnew": return h -> h.stateAnew(a[0], a[1]);
-            case "breaks": return h -> h.breaks(a[0], a[1], a[2]);
-            case "strong": return h -> h.strong(a[0], a[1], a[2]);
-            case "off": return h -> h.off(a[0], a[1], a[2]);
-            case "owner": return h -> h.owner(a[0], a[1]);
-            case "about": return h -> h.about(a[0], a[1]);
-            case "purse": return KeyblockHouse::purse;
-            default: throw new AssertionError(call);
-        }
+        String told = name + ", call " + calls + ": " + Calls.told(call, a);
+        checks.due(told, Checks.answer(house, Calls.of(call, a)), model.call(call, a));
     }
 }

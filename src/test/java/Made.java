@@ -2,6 +2,9 @@ import java.util.function.Supplier;
 
 /** Houses as the tests want them, made by calls alone. */
 final class Made {
+    /** Words for as many blocks as a work has at most. */
+    static final String[] SIX = {"sumi", "prussian", "gamboge", "sumi", "indigo", "beni"};
+
     private Made() {
     }
 
@@ -70,6 +73,34 @@ final class Made {
             house.run(2, 38 - left);
         }
         return house;
+    }
+
+    /**
+     * A house with so much money, 52 at most: a line of the work 0 is broken, its other one prints yet, and
+     * it has room for more sheets, so that later ones tell what a refused call has done to its lines.
+     */
+    static KeyblockHouse poorAndWorn(int left) {
+        KeyblockHouse house = lines(1, 300);
+        house.work();
+        cut(house, 1, "sumi");
+        house.seal(1);
+        for (int i = 0; i < 4; i++) {
+            house.run(1, 100);
+        }
+        house.run(0, 56 - left);
+        return house;
+    }
+
+    /** The same house in the month 2000. */
+    static Supplier<KeyblockHouse> old(Supplier<KeyblockHouse> made) {
+        return () -> {
+            KeyblockHouse house = made.get();
+            for (int i = 0; i < 33; i++) {
+                house.pass(60);
+            }
+            house.pass(20);
+            return house;
+        };
     }
 
     static Supplier<KeyblockHouse> typed(Supplier<KeyblockHouse> made, String word) {
